@@ -22,7 +22,7 @@ final class FramesThroughTest {
             Check.due("reclaim", driver.reclaim(), 1);
             Check.due("receive", driver.receive(), length);
             for (int i = 0; i < length; i++) {
-                Check.due("byte " + i, driver.taken(i), 16 * frame + i & 255);
+                Check.due("byte " + i, driver.taken(i), (16 * frame + i) & 255);
             }
         }
         Check.due("faults", driver.faults(), 0);
