@@ -22,6 +22,7 @@ final class Edges09PostTest {
 
     private static void zerosAfterAFrame() {
         RingDriver driver = new RingDriver();
+        Card.loadAll(driver, 140);
         Card.postMany(driver, 8, 0);
         for (int slot = 0; slot < 8; slot++) {
             Card.fillReceiveBuffer(driver, slot, 90);
@@ -38,6 +39,7 @@ final class Edges09PostTest {
 
     private static void zerosAfterWithdrawing() {
         RingDriver driver = new RingDriver();
+        Card.loadAll(driver, 140);
         Card.postMany(driver, 8, 0);
         for (int slot = 0; slot < 8; slot++) {
             Card.fillReceiveBuffer(driver, slot, 90);

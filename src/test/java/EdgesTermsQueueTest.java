@@ -7,8 +7,10 @@ final class EdgesTermsQueueTest {
         Check.sentence("it reaches the two rings and the buffers posted at that moment and nothing else",
             EdgesTermsQueueTest::theCardReachesOnlyWhatIsPosted);
         Check.sentence("it finds no old bytes", EdgesTermsQueueTest::theCardFindsNoOldBytes);
-        Check.sentence("it cannot change a frame that the driver has taken",
+        Check.sentence("it cannot change a frame that the driver has taken: its page is closed",
             EdgesTermsQueueTest::aTakenFrameStays);
+        Check.sentence("it cannot change a frame that the driver has taken: its slot is posted again",
+            EdgesTermsQueueTest::aTakenFrameStaysWhenItsSlotIsPostedAgain);
         Check.sentence("frames go out and come in whole, in order, each once",
             EdgesTermsQueueTest::fullRingsOfFramesKeepTheirOrder);
         Check.sentence("a slot that is posted comes into (t + their number) % 8: transmit",
@@ -33,6 +35,8 @@ final class EdgesTermsQueueTest {
             EdgesTermsQueueTest::transmitLengthsAreNotRead);
         Check.sentence("an OUT BOX and an IN BOX, which the card never reaches",
             EdgesTermsQueueTest::theCardDoesNotReachTheBoxes);
+        Check.sentence("an OUT BOX and an IN BOX: none but load changes the one, none but receive the other",
+            EdgesTermsQueueTest::otherCallsLeaveTheBoxes);
         Check.sentence("(the boxes are) all 0 at first", EdgesTermsQueueTest::boxesAreZeroAtFirst);
         Check.sentence("Questions (faults, sending, receiving, taken) change nothing",
             EdgesTermsQueueTest::questionsChangeNothing);
@@ -85,6 +89,23 @@ final class EdgesTermsQueueTest {
         }
         Check.due("the next one is not given back", driver.receive(), -1);
         Check.due("taken(0)", driver.taken(0), 60);
+    }
+
+    private static void aTakenFrameStaysWhenItsSlotIsPostedAgain() {
+        for (int first = 0; first < 8; first++) {
+            RingDriver driver = new RingDriver();
+            States.startReceiveAt(driver, first);
+            Card.postMany(driver, 8, first);
+            Card.fillReceiveBuffer(driver, first, 60);
+            Card.deliver(driver, first, 16);
+            Check.due("receive", driver.receive(), 16);
+            Check.due("post", driver.post(), first);
+            Check.due("taken(15)", driver.taken(15), 75);
+            Card.fillReceiveBuffer(driver, first, 180);
+            for (int i = 0; i < 16; i++) {
+                Check.due("taken(" + i + ")", driver.taken(i), 60 + i);
+            }
+        }
     }
 
     private static void fullRingsOfFramesKeepTheirOrder() {
@@ -295,6 +316,28 @@ final class EdgesTermsQueueTest {
         Check.due("send", driver.send(16), 0);
         for (int i = 0; i < 16; i++) {
             Check.due("byte " + i + " of the out box", driver.deviceRead(128 + i), 80 + i);
+        }
+    }
+
+    private static void otherCallsLeaveTheBoxes() {
+        RingDriver driver = new RingDriver();
+        States.roundTheEnd(driver);
+        Card.setOwner(driver, Card.TRANSMIT_RING, 6, 0);
+        Check.due("reclaim", driver.reclaim(), 1);
+        Check.due("send", driver.send(1), 3);
+        Check.due("send", driver.send(17), -2);
+        Check.due("post", driver.post(), 3);
+        Check.due("withdraw", driver.withdraw(), 6);
+        Check.due("revoke", driver.revoke(), 5);
+        for (int i = 0; i < 16; i++) {
+            Check.due("byte " + i + " of the in box", driver.taken(i), 200 + i);
+        }
+        Check.due("post", driver.post(), 6);
+        Card.deliver(driver, 6, 16);
+        Check.due("receive", driver.receive(), 16);
+        Check.due("send", driver.send(16), 7);
+        for (int i = 0; i < 16; i++) {
+            Check.due("byte " + i + " of the out box", driver.deviceRead(128 + 7 * 16 + i), 90 + i);
         }
     }
 

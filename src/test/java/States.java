@@ -40,13 +40,14 @@ final class States {
         }
     }
 
-    /** Three of each; the oldest received one is given back. */
+    /** Three of each; the oldest of each is given back. */
     static void some(RingDriver driver) {
         Card.loadAll(driver, 10);
         Card.sendMany(driver, 3, 0);
         Card.postMany(driver, 3, 0);
         Card.fillReceiveBuffer(driver, 0, 30);
         Card.deliver(driver, 0, 4);
+        Card.setOwner(driver, Card.TRANSMIT_RING, 0, 0);
     }
 
     /** Five of each in slots 6, 7, 0, 1, 2, after a frame has been taken from slot 5. */

@@ -5,7 +5,7 @@ import java.lang.reflect.Method;
  * does not end by itself: a broken loop in the driver fails a test instead of hanging it.
  */
 final class WithLimit {
-    private static final long MILLISECONDS = 120_000;
+    private static final long MILLISECONDS = 60_000;
 
     private WithLimit() {
     }
