@@ -2,11 +2,13 @@
 final class Edges01NewObjectTest {
     public static void main(String[] args) {
         Check.sentence("Nothing is posted: no page is open to be read", Edges01NewObjectTest::nothingIsReadable);
-        Check.sentence("Nothing is posted: no page is open to be written", Edges01NewObjectTest::nothingIsWritable);
+        Check.sentence("Nothing is posted: no page is open to be written",
+            Edges01NewObjectTest::nothingIsWritable);
         Check.sentence("Nothing is posted: none is taken out of a queue", Edges01NewObjectTest::queuesAreEmpty);
         Check.sentence("rings, buffers and boxes are 0: buffers", Edges01NewObjectTest::buffersAreZero);
         Check.sentence("no faults", Edges01NewObjectTest::noFaults);
-        Check.sentence("A new object is new, whatever other objects are", Edges01NewObjectTest::objectsShareNothing);
+        Check.sentence("A new object is new, whatever other objects are",
+            Edges01NewObjectTest::objectsShareNothing);
         Check.end();
     }
 

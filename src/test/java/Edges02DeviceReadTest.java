@@ -12,7 +12,8 @@ final class Edges02DeviceReadTest {
             Edges02DeviceReadTest::closedSlots);
         Check.sentence("-1, a fault, if its page is not open for reading: a receive buffer",
             Edges02DeviceReadTest::receiveBuffers);
-        Check.sentence("a read changes nothing but the number of faults", Edges02DeviceReadTest::readingChangesNothing);
+        Check.sentence("a read changes nothing but the number of faults",
+            Edges02DeviceReadTest::readingChangesNothing);
         Check.end();
     }
 

@@ -5,7 +5,8 @@ import java.util.function.Consumer;
 final class Edges04FaultsTest {
     public static void main(String[] args) {
         Check.sentence("How many calls of these two were faults: none", Edges04FaultsTest::goodCallsAreNone);
-        Check.sentence("How many calls of these two were faults: each counts one", Edges04FaultsTest::eachCountsOne);
+        Check.sentence("How many calls of these two were faults: each counts one",
+            Edges04FaultsTest::eachCountsOne);
         Check.sentence("How many calls of these two were faults: refused calls of others are none",
             Edges04FaultsTest::refusedCallsOfOthersAreNone);
         Check.sentence("How many calls of these two were faults: no call takes them back",
@@ -48,30 +49,19 @@ final class Edges04FaultsTest {
 
     private static void refusedCallsOfOthersAreNone() {
         List<Consumer<RingDriver>> calls = List.of(
-            driver -> Check.due("load", driver.load(-1, 0), false),
-            driver -> Check.due("load", driver.load(16, 0), false),
-            driver -> Check.due("send", driver.send(0), -2),
-            driver -> Check.due("send", driver.send(17), -2),
-            driver -> Check.due("send", driver.send(16), -1),
-            driver -> Check.due("post", driver.post(), -1),
-            driver -> Check.due("receive", driver.receive(), -1),
-            driver -> Check.due("taken", driver.taken(-1), -1),
-            driver -> Check.due("taken", driver.taken(16), -1),
-            driver -> Check.due("reclaim", driver.reclaim(), 0),
-            driver -> Check.due("wrong length", receiveWrongLength(driver), -3),
-            driver -> Check.due("withdraw", driver.withdraw(), 7),
-            driver -> Check.due("revoke", driver.revoke(), 8));
+            driver -> driver.load(-1, 0), driver -> driver.load(16, 0),
+            driver -> driver.taken(-1), driver -> driver.taken(16),
+            driver -> driver.send(0), driver -> driver.send(17), driver -> driver.send(16),
+            RingDriver::post, RingDriver::receive, RingDriver::reclaim,
+            driver -> Card.deliver(driver, 0, 17), RingDriver::receive,
+            RingDriver::withdraw, RingDriver::revoke,
+            RingDriver::receive, RingDriver::reclaim, RingDriver::withdraw, RingDriver::revoke);
         RingDriver driver = new RingDriver();
         States.full(driver);
         for (int i = 0; i < calls.size(); i++) {
             calls.get(i).accept(driver);
             Check.due("faults after call " + i, driver.faults(), 0);
         }
-    }
-
-    private static int receiveWrongLength(RingDriver driver) {
-        Card.deliver(driver, 0, 17);
-        return driver.receive();
     }
 
     private static void noCallTakesThemBack() {

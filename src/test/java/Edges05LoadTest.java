@@ -4,7 +4,8 @@ final class Edges05LoadTest {
         Check.sentence("Byte i of the out box becomes v: the first and the last", Edges05LoadTest::firstAndLast);
         Check.sentence("Byte i of the out box becomes v: that one and no other", Edges05LoadTest::noOtherByte);
         Check.sentence("false if i is not 0 .. 15", Edges05LoadTest::wrongPlaces);
-        Check.sentence("false if i is not 0 .. 15: then no byte becomes v", Edges05LoadTest::wrongPlacesChangeNothing);
+        Check.sentence("false if i is not 0 .. 15: then no byte becomes v",
+            Edges05LoadTest::wrongPlacesChangeNothing);
         Check.sentence("the out box alone changes: no buffer, no ring and no in box",
             Edges05LoadTest::nothingElseChanges);
         Check.end();

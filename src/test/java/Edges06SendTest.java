@@ -11,9 +11,11 @@ final class Edges06SendTest {
         Check.sentence("The first length bytes of the out box are a frame: every length",
             Edges06SendTest::everyLength);
         Check.sentence("and zeros behind them", Edges06SendTest::zerosBehindTheFrame);
-        Check.sentence("it is posted with that length; the slot: each slot from each t", Edges06SendTest::eachSlot);
+        Check.sentence("it is posted with that length; the slot: each slot from each t",
+            Edges06SendTest::eachSlot);
         Check.sentence("-2 if length is not 1 .. 16", Edges06SendTest::wrongLengths);
-        Check.sentence("-2 if length is not 1 .. 16: then nothing is posted", Edges06SendTest::wrongLengthsChangeNothing);
+        Check.sentence("-2 if length is not 1 .. 16: then nothing is posted",
+            Edges06SendTest::wrongLengthsChangeNothing);
         Check.sentence("-2; else -1: a wrong length comes before eight posted ones",
             Edges06SendTest::wrongLengthsOnAFullRing);
         Check.sentence("-1 if eight are posted", Edges06SendTest::eightAreFull);

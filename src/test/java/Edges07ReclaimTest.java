@@ -10,7 +10,8 @@ final class Edges07ReclaimTest {
             Edges07ReclaimTest::onlyTheOldestCounts);
         Check.sentence("While ..: one after the other, up to the first that is the card's; How many were",
             Edges07ReclaimTest::upToTheFirstOfTheCards);
-        Check.sentence("that one is closed and taken out: the page of that one alone", Edges07ReclaimTest::onePageCloses);
+        Check.sentence("that one is closed and taken out: the page of that one alone",
+            Edges07ReclaimTest::onePageCloses);
         Check.sentence("that one is closed (its descriptor stays)", Edges07ReclaimTest::nothingIsWritten);
         Check.sentence("transmit slots, not receive slots", Edges07ReclaimTest::receiveSlotsStay);
         Check.end();

@@ -3,7 +3,8 @@ final class Edges08RevokeTest {
     public static void main(String[] args) {
         Check.sentence("First what reclaim does; How many were closed in the second part: not those of the first",
             Edges08RevokeTest::theFirstPartDoesNotCount);
-        Check.sentence("then all that are still posted are closed: none is posted", Edges08RevokeTest::noneIsPosted);
+        Check.sentence("then all that are still posted are closed: none is posted",
+            Edges08RevokeTest::noneIsPosted);
         Check.sentence("then all that are still posted are closed: all have been given back",
             Edges08RevokeTest::allAreGivenBack);
         Check.sentence("then all that are still posted are closed: every number, from every t",

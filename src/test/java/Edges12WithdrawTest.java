@@ -3,17 +3,20 @@ final class Edges12WithdrawTest {
     public static void main(String[] args) {
         Check.sentence("Of the posted receive slots: none is posted", Edges12WithdrawTest::noneIsPosted);
         Check.sentence("those with owner byte 0 stay: all have it", Edges12WithdrawTest::allStay);
-        Check.sentence("those with owner byte 0 stay: open and with their frames", Edges12WithdrawTest::keptOnesKeepTheirFrames);
+        Check.sentence("those with owner byte 0 stay: open and with their frames",
+            Edges12WithdrawTest::keptOnesKeepTheirFrames);
         Check.sentence("up to the first whose owner byte is not 0: that one and all behind it are closed",
             Edges12WithdrawTest::everyFirstOfTheCards);
         Check.sentence("whose owner byte is not 0: any but 0", Edges12WithdrawTest::everyOwnerButZero);
-        Check.sentence("all behind it: also those with owner byte 0", Edges12WithdrawTest::givenBackOnesBehindTheCards);
+        Check.sentence("all behind it: also those with owner byte 0",
+            Edges12WithdrawTest::givenBackOnesBehindTheCards);
         Check.sentence("and leave the queue: the next post comes behind those that stay; How many",
             Edges12WithdrawTest::theNextSlotIsTheFirstClosedOne);
         Check.sentence("their owner bytes become 0", Edges12WithdrawTest::ownersBecomeZero);
         Check.sentence("their owner bytes: of no slot that is not posted", Edges12WithdrawTest::otherOwnersStay);
         Check.sentence("(the rest of their descriptors stays)", Edges12WithdrawTest::theRestStays);
-        Check.sentence("receive slots, not transmit slots; and the in box stays", Edges12WithdrawTest::allElseStays);
+        Check.sentence("receive slots, not transmit slots; and the in box stays",
+            Edges12WithdrawTest::allElseStays);
         Check.end();
     }
 

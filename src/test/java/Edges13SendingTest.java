@@ -1,7 +1,8 @@
 /** Promise 13, its boundary cases. */
 final class Edges13SendingTest {
     public static void main(String[] args) {
-        Check.sentence("How many transmit slots are posted: 0 .. 8, from every t", Edges13SendingTest::everyNumber);
+        Check.sentence("How many transmit slots are posted: 0 .. 8, from every t",
+            Edges13SendingTest::everyNumber);
         Check.sentence("How many transmit slots are posted: a refused frame is none",
             Edges13SendingTest::refusedFramesDoNotCount);
         Check.sentence("How many transmit slots are posted: whoever their owner is",

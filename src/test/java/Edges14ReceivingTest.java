@@ -1,7 +1,8 @@
 /** Promise 14, its boundary cases. */
 final class Edges14ReceivingTest {
     public static void main(String[] args) {
-        Check.sentence("How many receive slots are posted: 0 .. 8, from every t", Edges14ReceivingTest::everyNumber);
+        Check.sentence("How many receive slots are posted: 0 .. 8, from every t",
+            Edges14ReceivingTest::everyNumber);
         Check.sentence("How many receive slots are posted: a refused post is none",
             Edges14ReceivingTest::refusedPostsDoNotCount);
         Check.sentence("How many receive slots are posted: whoever their owner is",

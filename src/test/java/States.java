@@ -18,7 +18,7 @@ final class States {
         Check.due("nothing posted yet", driver.sending() + driver.receiving(), 0);
     }
 
-    /** Brings the first slot of both queues, which are empty then, to the given one. */
+    /** Brings the first slot of both queues, which are empty then, to the given one; the boxes stay 0. */
     static void startAt(RingDriver driver, int first) {
         startTransmitAt(driver, first);
         startReceiveAt(driver, first);
@@ -35,8 +35,8 @@ final class States {
     static void startReceiveAt(RingDriver driver, int first) {
         Card.postMany(driver, first, 0);
         for (int slot = 0; slot < first; slot++) {
-            Card.setOwner(driver, Card.RECEIVE_RING, slot, 0);
-            Check.due("receive", driver.receive(), -3);
+            Card.deliver(driver, slot, 4);
+            Check.due("receive", driver.receive(), 4);
         }
     }
 
