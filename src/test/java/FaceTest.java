@@ -19,6 +19,7 @@ final class FaceTest {
         theClassIsPublicAndFinal();
         theMethodsAreThoseOfTheDocument();
         allElseIsPrivate();
+        noPrivateMethodHasAPublicName();
         Check.end();
     }
 
@@ -56,6 +57,18 @@ final class FaceTest {
         }
         for (Class<?> inside : RingDriver.class.getDeclaredClasses()) {
             Check.due(inside + " is static", Modifier.isStatic(inside.getModifiers()), true);
+        }
+    }
+
+    private static void noPrivateMethodHasAPublicName() {
+        Set<String> publicNames = new TreeSet<>();
+        for (Method method : RingDriver.class.getMethods()) {
+            publicNames.add(method.getName());
+        }
+        for (Method method : RingDriver.class.getDeclaredMethods()) {
+            boolean isPrivate = Modifier.isPrivate(method.getModifiers());
+            boolean sameName = publicNames.contains(method.getName());
+            Check.due("private " + method.getName() + " has a public name", isPrivate && sameName, false);
         }
     }
 }
